@@ -31,8 +31,8 @@ public final class RopeDance {
     private static final int MOST_DIVISIONS = 100;
     private static final int ALL_PLAIN = 0;
 
-    /** No fraction has this code, so that rows that are TOO TIGHT are alike, and like nothing else. */
-    private static final int TIGHT_CODE = 1000000000;
+    /** No fraction has these codes, so that rows that are TOO TIGHT are alike, and like nothing else. */
+    private static final int TIGHT_CODE = 1000000000, LEFT_OUT = 1000000001;
 
     private static final String FIRST_TEXT = "d1,1;d2,3;d3,2;r0;r0;r2;r1;r2;";
 
@@ -412,19 +412,22 @@ public final class RopeDance {
     private int greatestPart(int i, int possible, int n) {
         int greatest = 0;
         for (int kind = 0; kind < KINDS; kind++) {
-            codes[kind] = tryRow(n, withKind(ownKinds, i, kind)) ? trial.woundCode() : TIGHT_CODE;
-            if ((possible >> kind & 1) == 1) {
-                greatest = Math.max(greatest, partUpTo(kind, possible));
-            }
+            int code = tryRow(n, withKind(ownKinds, i, kind)) ? trial.woundCode() : TIGHT_CODE;
+            codes[kind] = (possible >> kind & 1) == 1 ? code : LEFT_OUT;
+        }
+        for (int kind = 0; kind < KINDS; kind++) {
+            greatest = Math.max(greatest, partOf(codes[kind]));
         }
         return greatest;
     }
 
-    /** A part is counted whole at its last kind, so looking back from each kind is enough. */
-    private int partUpTo(int last, int possible) {
+    private int partOf(int code) {
+        if (code == LEFT_OUT) {
+            return 0;
+        }
         int alike = 0;
-        for (int kind = 0; kind <= last && kind < KINDS; kind++) {
-            if ((possible >> kind & 1) == 1 && codes[kind] == codes[last]) {
+        for (int kind = 0; kind < KINDS; kind++) {
+            if (codes[kind] == code) {
                 alike++;
             }
         }
