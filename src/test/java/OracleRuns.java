@@ -2,13 +2,10 @@ import java.util.ArrayList;
 import java.util.List;
 import java.util.Random;
 
-/**
- * Runs of calls by a fixed seed, each answer held against a second program that is written as the
- * document's words stand, by trying every row out whole.
- */
+/** Runs of 512 calls by a fixed seed, each answer held against the second program, Oracle. */
 public final class OracleRuns {
-    private static final int RUNS = 1500;
-    private static final int CALLS = 300;
+    private static final int RUNS = 1200;
+    private static final int CALLS = 512;
     private static int wrong = 0;
     private static long calls = 0;
 
@@ -34,7 +31,15 @@ public final class OracleRuns {
             this.random = new Random(seed);
         }
 
+        /** Beyond 512 calls nothing is promised. */
+        boolean isOver() {
+            return told.size() >= CALLS;
+        }
+
         void due(String call, int got, int want) {
+            if (isOver()) {
+                return;
+            }
             calls++;
             told.add(call + " = " + got);
             if (got != want) {
@@ -110,6 +115,22 @@ public final class OracleRuns {
             }
         }
 
+        /** To where the next TWIST or BACK is just at 9999, or just beyond it. */
+        void windTight() {
+            due("wipe()", x.wipe(), o.wipe());
+            write("d0," + in(0, 5) + ";d1," + in(0, 5) + ";d2," + in(0, 5) + ";d3,0;r0;r1;r2;r0;r1;r0;");
+            due("lay()", x.lay(), o.lay());
+            int[] f = Dances.fractionWith(in(9998, 10001), in(1, 2));
+            int sign = in(0, 1) == 0 ? 1 : -1;
+            for (int figure : Dances.wayTo(sign * f[0], f[1])) {
+                int leader = o.place(1, 0);
+                if (figure != 2 && leader != 3) {
+                    due("put(" + leader + ",3)", x.put(leader, 3), o.put(leader, 3));
+                }
+                due("dance(" + figure + ")", x.dance(figure), o.dance(figure));
+            }
+        }
+
         void go() {
             if (in(0, 9) > 0) {
                 layAnew();
@@ -117,7 +138,10 @@ public final class OracleRuns {
             if (in(0, 2) == 0) {
                 windUp();
             }
-            for (int c = 0; c < CALLS && wrong < 20; c++) {
+            if (in(0, 3) == 0) {
+                windTight();
+            }
+            while (!isOver() && wrong < 20) {
                 any();
             }
         }
