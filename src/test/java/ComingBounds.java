@@ -5,6 +5,7 @@ public final class ComingBounds {
     private static final String PLAIN = "d0,0;";
     private static final String ALL_LAZY = "d0,2;d1,2;d2,2;d3,2;";
     private static final String ALL_EAGER = "d0,3;d1,3;d2,3;d3,3;";
+    private static final String ALL_SHY = "d0,4;d1,4;d2,4;d3,4;";
     private static final String ALL_CROSS = "d0,1;d1,1;d2,1;d3,1;";
 
     public static void main(String[] args) {
@@ -20,8 +21,10 @@ public final class ComingBounds {
         waysNumbers();
         plainUpToSixty();
         plainNone();
+        plainOfShyOnes();
         theRow();
         behindTheFirst();
+        oneBehindTheOther();
         nothingElseIsDone();
         Asked.end();
     }
@@ -84,15 +87,11 @@ public final class ComingBounds {
         Dances.dance(x, REST, TWIST);
         isRow("from 2 in BEAT 3", x::free, TWIST, BACK, TWIST, BACK);
         x = Dances.laid(PLAIN);
-        isRow("either TWIST or BACK", k -> meet(0, 2, k), TWIST);
+        isRow("either TWIST or BACK", k -> Dances.laid(PLAIN).meet(0, 2, k), TWIST);
         Dances.dance(x, BACK, BACK, TURN, TWIST);
         // 3 by 2: BACK, TURN and two TWISTs; a TURN first would be longer.
         Dances.wound(x, 3, 2);
         isRow("from 3 by 2", x::free, BACK, TURN, TWIST, TWIST);
-    }
-
-    private static int meet(int i, int j, int k) {
-        return Dances.laid(PLAIN).meet(i, j, k);
     }
 
     private static void freeByFiguresUpToTwo() {
@@ -105,14 +104,9 @@ public final class ComingBounds {
         }
         x = Dances.laid(ALL_LAZY);
         x.dance(REST);
-        isRow("a nothing by TWIST, not by REST", k -> x2(k), TWIST, TWIST);
+        RopeDance lazy = x;
+        isRow("a nothing by TWIST, not by REST", k -> lazy.reach(1, 1, k), TWIST, TWIST);
         Asked.due("ways(1): TWIST and BACK, not REST", x.ways(1), 2);
-    }
-
-    private static int x2(int k) {
-        RopeDance x = Dances.laid(ALL_LAZY);
-        x.dance(REST);
-        return x.reach(1, 1, k);
     }
 
     private static void freeNumbers() {
@@ -129,16 +123,12 @@ public final class ComingBounds {
         }
     }
 
-    private static boolean isTold(int u, int l) {
-        return u == 1 && l == 0 || u >= -99 && u <= 99 && l >= 1 && l <= 99 && Dances.divisor(u, l) == 1;
-    }
-
     private static void reachNumbers() {
         Asked.under("REACH of u by l (-99 to 99 by 1 to 99, in lowest terms, or 1 by 0: ENDLESS), likewise. NONE; BAD.");
         for (int u = -101; u <= 101; u++) {
             RopeDance x = new RopeDance();
             for (int l = -2; l <= 101; l++) {
-                Asked.so("reach(" + u + ", " + l + ", 6)", (x.reach(u, l, 6) == BAD) == !isTold(u, l));
+                Asked.so("reach(" + u + ", " + l + ", 6)", (x.reach(u, l, 6) == BAD) == !Dances.isTold(u, l));
             }
         }
         RopeDance x = Dances.laid(PLAIN);
@@ -224,7 +214,7 @@ public final class ComingBounds {
         }
         // Who leads does it twice or, of a SHY one, nothing till all have gone on.
         isRow("an EAGER one leads", k -> Dances.laid("d1,3;").meet(0, 2, k), TURN, TWIST);
-        RopeDance y = Dances.laid("d0,4;d1,4;d2,4;d3,4;");
+        RopeDance y = Dances.laid(ALL_SHY);
         y.dance(TURN);
         isRow("a SHY one leads", k -> y.meet(0, 2, k), TURN, TWIST);
         // Of three EAGER ones and a LAZY one: the LAZY one must lead in an even BEAT.
@@ -246,9 +236,7 @@ public final class ComingBounds {
                 if (n <= deeds) {
                     Asked.due("ways(" + n + ") of " + deeds, y.ways(n), n == deeds ? 1 : 0);
                 }
-                Oracle o = new Oracle();
-                o.text = PLAIN;
-                o.lay();
+                Oracle o = Oracle.laid(PLAIN);
                 for (int k = 0; k < deeds; k++) {
                     o.dance(TWIST);
                 }
@@ -326,48 +314,25 @@ public final class ComingBounds {
             x.dance(BACK);
             Asked.due("EAGER ones, -" + 2 * n, x.plain(), n <= 60 ? n : NONE);
         }
-        x = Dances.laid("d0,4;d1,4;d2,4;d3,4;");
-        Dances.dance(x, BACK, TURN, TURN);
-        Dances.ropes(x, 0, 1, 0, 1);
-        Dances.wound(x, -1, 1);
-        Asked.due("SHY ones of two ROPES", x.plain(), 1);
-        x.put(x.place(0, 0), x.place(1, 0));
-        Asked.due("a PUT leaves the ends where they are", x.plain(), 1);
-        x = Dances.laid("d0,4;d1,4;d2,4;d3,4;");
-        Dances.dance(x, BACK, BACK, TURN, TURN, TURN, REST);
-        Dances.wound(x, 1, 2);
-        Asked.due("SHY ones, 1 by 2", x.plain(), 3);
-        Dances.dance(x, TURN, TURN, TURN, TURN, TURN, TURN);
-        Dances.wound(x, 1, 2);
-        Asked.due("SHY ones of one ROPE do nothing for ever", plainOfOneRope(), NONE);
     }
 
-    private static int plainOfOneRope() {
-        RopeDance x = Dances.laid("d0,4;d1,4;d2,4;d3,4;");
-        Dances.dance(x, BACK, BACK, TURN, TURN);
-        Dances.wound(x, -2, 1);
-        x.dance(TURN);
-        Dances.wound(x, 1, 2);
-        Dances.ropes(x, 0, 1, 1, 0);
-        x.dance(TURN);
-        Dances.wound(x, -2, 1);
-        Dances.ropes(x, 0, 0, 1, 1);
-        Asked.due("of two ROPES: two TWISTs", x.plain(), 2);
-        x.dance(TURN);
+    private static void plainOfShyOnes() {
+        Asked.under("how many FIGURES till it is 0 (1 to 60; 0 if it is); none");
+        RopeDance x = Dances.laid(ALL_SHY);
+        Dances.dance(x, TWIST, TURN);
+        Dances.wound(x, -1, 1);
+        Dances.ropes(x, 1, 0, 1, 0);
+        Asked.due("SHY ones, the ROPES differ: a TWIST", x.plain(), 1);
+        x.put(x.place(1, 0), x.place(3, 0));
+        Asked.due("a PUT leaves the ends where they are", x.plain(), 1);
+        x = Dances.laid(ALL_SHY);
+        Dances.dance(x, TWIST, TWIST, TURN);
+        Dances.wound(x, -1, 2);
         Dances.ropes(x, 1, 0, 0, 1);
-        Dances.dance(x, TWIST, BACK);
-        Dances.wound(x, 1, 2);
-        Asked.due("TURN first, then two TWISTs", x.plain(), 3);
-        RopeDance y = Dances.laid("d0,4;d1,4;d2,4;d3,4;");
-        Dances.dance(y, TWIST, TURN);
-        Dances.wound(y, -1, 1);
-        Dances.ropes(y, 1, 0, 1, 0);
-        Asked.due("of two ROPES: a TWIST", y.plain(), 1);
-        RopeDance z = Dances.laid("d0,4;d1,4;d2,4;d3,4;");
-        Dances.dance(z, TWIST, TWIST, TURN);
-        Dances.wound(z, -1, 2);
-        Dances.ropes(z, 1, 0, 0, 1);
-        return z.plain();
+        Asked.due("SHY ones of one ROPE do nothing for ever", x.plain(), NONE);
+        x.dance(TURN);
+        Dances.wound(x, 2, 1);
+        Asked.due("a TURN, to where it is so again", x.plain(), NONE);
     }
 
     private static void theRow() {
@@ -415,6 +380,25 @@ public final class ComingBounds {
         Asked.due("behind(12, 1) of ENDLESS", x.behind(12, 1), 0);
         y.dance(BACK);
         Asked.due("behind(0, 0), a number like BAD", y.behind(0, 0), -1);
+    }
+
+    /** What one call sought leaves no trace in what the next one seeks. */
+    private static void oneBehindTheOther() {
+        Asked.under("FREE: how many FIGURES (k = -1), the k-th.");
+        RopeDance x = Dances.laid(PLAIN);
+        Dances.dance(x, TWIST, TWIST);
+        for (int round = 0; round < 2; round++) {
+            isRow("meet", k -> x.meet(0, 2, k), TWIST);
+            isRow("free", x::free, BACK, BACK);
+            Asked.due("meet", x.meet(0, 1, -1), 0);
+            isRow("reach", k -> x.reach(-1, 2, k), TURN);
+            Asked.due("meet", x.meet(0, 1, -1), 0);
+            Asked.due("ways(2)", x.ways(2), 1);
+            Asked.due("meet", x.meet(0, 1, -1), 0);
+            Asked.due("odds(0, 0, 0)", x.odds(0, 0, 0), 0);
+            isNone("reach", k -> x.reach(50, 1, k));
+            isRow("free", x::free, BACK, BACK);
+        }
     }
 
     private static void nothingElseIsDone() {

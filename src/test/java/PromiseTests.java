@@ -1,6 +1,3 @@
-import java.util.ArrayList;
-import java.util.List;
-
 /** The promises one by one: ordinary calls, the edges that the document names, and wrong inputs. */
 public final class PromiseTests {
     private static final int BAD = -1, NO = -2, FULL = -3, NONE = -4, WRONG = -100000, NOTHING = -100001;
@@ -55,25 +52,8 @@ public final class PromiseTests {
         }
     }
 
-    private static int tell(RopeDance x, String text) {
-        int length = 0;
-        for (char c : text.toCharArray()) {
-            length = x.write(c);
-        }
-        return length;
-    }
-
-    private static RopeDance laid(String text) {
-        RopeDance x = new RopeDance();
-        tell(x, text);
-        if (x.lay() < 0) {
-            throw new IllegalStateException(text);
-        }
-        return x;
-    }
-
     private static RopeDance plainFour() {
-        return laid("d0,0;");
+        return Dances.laid("d0,0;");
     }
 
     private static void danceAll(RopeDance x, int... figures) {
@@ -146,12 +126,12 @@ public final class PromiseTests {
     private static void wipe() {
         RopeDance x = new RopeDance();
         due(3, "wipe()", x.wipe(), 0);
-        tell(x, "r0;");
+        Dances.tell(x, "r0;");
         due(3, "wipe()", x.wipe(), 3);
         due(3, "wipe()", x.wipe(), 0);
         due(3, "lay()", x.lay(), NO);
         due(3, "count(0)", x.count(0), 5);
-        tell(x, "r1;");
+        Dances.tell(x, "r1;");
         due(3, "lay()", x.lay(), 1);
         x.wipe();
         due(3, "row(0) stays", x.row(0), 1);
@@ -159,7 +139,7 @@ public final class PromiseTests {
 
     private static void faultOf(String text, int want) {
         RopeDance x = new RopeDance();
-        tell(x, text);
+        Dances.tell(x, text);
         due(4, "fault() of " + text, x.fault(), want);
         if (want != NONE) {
             due(5, "lay() of " + text, x.lay(), NO);
@@ -190,7 +170,7 @@ public final class PromiseTests {
 
     private static void lay() {
         RopeDance x = new RopeDance();
-        tell(x, "d0,1;d0,4;p0,2;p0,3;p3,0;d3,5;r3;r1;");
+        Dances.tell(x, "d0,1;d0,4;p0,2;p0,3;p3,0;d3,5;r3;r1;");
         due(5, "lay()", x.lay(), 2);
         due(5, "count(6)", x.count(6), 36);
         int[] kinds = {4, 0, 0, 5};
@@ -226,7 +206,7 @@ public final class PromiseTests {
         int before = x.wound(0);
         for (String text : new String[] {"p0,1;", "p0,3;p1,3;", "d0,0;r9;", "p0,1;p1,2;p2,3;", "d0,9;"}) {
             x.wipe();
-            int length = tell(x, text);
+            int length = Dances.tell(x, text);
             due(5, "lay() of " + text, x.lay(), NO);
             counts(5, x, 5, 2, 2, 2, 1, 1, length);
             due(5, "wound(0)", x.wound(0), before);
@@ -234,7 +214,7 @@ public final class PromiseTests {
             due(5, "row(4)", x.row(4), 2);
         }
         x.wipe();
-        tell(x, "p0,1;p1,2;p2,3;p3,0;");
+        Dances.tell(x, "p0,1;p1,2;p2,3;p3,0;");
         due(5, "lay()", x.lay(), 0);
         stand(5, x, 3, 0, 1, 2);
         due(5, "place(0, 1)", x.place(0, 1), 0);
@@ -317,7 +297,7 @@ public final class PromiseTests {
         for (int far : FAR) {
             due(9, "row(" + far + ")", x.row(far), BAD);
         }
-        x = laid("r3;r2;r1;r0;r3;r2;r1;r0;r3;r2;r1;r2;");
+        x = Dances.laid("r3;r2;r1;r0;r3;r2;r1;r0;r3;r2;r1;r2;");
         int[] row = {3, 2, 1, 0, 3, 2, 1, 0, 3, 2, 1, 2};
         for (int k = 0; k < 12; k++) {
             due(9, "row(" + k + ")", x.row(k), row[k]);
@@ -350,7 +330,7 @@ public final class PromiseTests {
     }
 
     private static void kindsOfDancers() {
-        RopeDance x = laid("d1,1;");
+        RopeDance x = Dances.laid("d1,1;");
         due(10, "CROSS TWIST", x.dance(TWIST), 9);
         due(10, "count(2)", x.count(2), 2);
         isWound(10, x, -1, 1);
@@ -358,7 +338,7 @@ public final class PromiseTests {
         due(10, "CROSS BACK", x.dance(BACK), 11);
         due(10, "count(2)", x.count(2), 1);
 
-        x = laid("d1,2;");
+        x = Dances.laid("d1,2;");
         x.dance(REST);
         due(10, "LAZY in BEAT 1", x.dance(TWIST), 10);
         counts(10, x, 0, 2, 0, 2, 0, 0, 5);
@@ -367,7 +347,7 @@ public final class PromiseTests {
         due(10, "LAZY in BEAT 2", x.dance(BACK), 9);
         isWound(10, x, -1, 1);
 
-        x = laid("d1,3;");
+        x = Dances.laid("d1,3;");
         due(10, "EAGER TWIST", x.dance(TWIST), 12);
         stand(10, x, 0, 1, 2, 3);
         isWound(10, x, 2, 1);
@@ -376,7 +356,7 @@ public final class PromiseTests {
         isWound(10, x, 0, 1);
         due(10, "count(2)", x.count(2), 2);
 
-        x = laid("d1,4;d0,4;");
+        x = Dances.laid("d1,4;d0,4;");
         due(10, "SHY beside the other ROPE", x.dance(TWIST), 11);
         x.lay();
         x.dance(TURN);
@@ -390,9 +370,9 @@ public final class PromiseTests {
     }
 
     private static void stubborn() {
-        RopeDance x = laid("d1,5;");
+        RopeDance x = Dances.laid("d1,5;");
         due(10, "STUBBORN at first", x.dance(BACK), 9);
-        x = laid("d1,5;d2,1;");
+        x = Dances.laid("d1,5;d2,1;");
         danceAll(x, TWIST);
         due(10, "CROSS told TWIST", x.dance(TWIST), 9);
         due(10, "STUBBORN behind it, told TWIST", x.dance(TWIST), 9);
@@ -400,7 +380,7 @@ public final class PromiseTests {
         danceAll(x, REST);
         due(10, "STUBBORN, told BACK, behind a REST", x.dance(BACK), 11);
         due(10, "count(2)", x.count(2), 1);
-        x = laid("d1,5;d2,3;");
+        x = Dances.laid("d1,5;d2,3;");
         x.dance(TWIST);
         due(10, "EAGER told BACK", x.dance(BACK), 8);
         x.put(1, 2);
@@ -411,71 +391,18 @@ public final class PromiseTests {
         due(10, "STUBBORN, what was done being undone", x.dance(TWIST), 11);
     }
 
-    /** The figures from 0 to a fraction: its plain way, gone backwards. */
-    private static List<Integer> wayTo(int u, int l) {
-        List<Integer> way = new ArrayList<>();
-        int a = u;
-        int b = l;
-        while (a != 0) {
-            if (a < 0) {
-                a += b;
-                way.add(0, BACK);
-            } else {
-                int c = a;
-                a = -b;
-                b = c;
-                way.add(0, TURN);
-            }
-        }
-        return way;
-    }
-
-    private static void windTo(RopeDance x, int u, int l) {
-        for (int figure : wayTo(u, l)) {
-            // Whoever is not PLAIN must not lead on the way.
-            for (int j = 3; j >= 0 && x.dancer(x.place(1, 0), 0) != 0; j--) {
-                if (x.dancer(j, 0) == 0) {
-                    x.put(x.place(1, 0), j);
-                }
-            }
-            x.dance(figure);
-        }
-        isWound(10, x, u, l);
-    }
-
-    private static void letLead(RopeDance x, int i) {
-        if (x.place(1, 0) != i) {
-            x.put(x.place(1, 0), i);
-        }
-    }
-
-    private static int divisor(int a, int b) {
-        return b == 0 ? a : divisor(b, a % b);
-    }
-
-    /** A fraction u by l with u and some times l together making the sum, whose way is short. */
-    private static int[] fractionWith(int sum, int times) {
-        for (int l = 2000; l < 4500; l++) {
-            int u = sum - times * l;
-            if (u > 0 && divisor(u, l) == 1 && wayTo(u, l).size() < 90) {
-                return new int[] {u, l};
-            }
-        }
-        throw new IllegalStateException();
-    }
-
     private static void tooTight() {
-        int[] just = fractionWith(9999, 1);
-        int[] above = fractionWith(10000, 1);
+        int[] just = Dances.fractionWith(9999, 1);
+        int[] above = Dances.fractionWith(10000, 1);
         RopeDance x = plainFour();
-        windTo(x, just[0], just[1]);
+        Dances.windTo(x, just[0], just[1]);
         due(10, "dance(TWIST) up to 9999", x.dance(TWIST), 11);
         isWound(10, x, 9999, just[1]);
         due(10, "dance(TURN)", x.dance(TURN), 10);
         isWound(10, x, -just[1], 9999);
         due(10, "dance(BACK)", x.dance(BACK), NO);
         x = plainFour();
-        windTo(x, above[0], above[1]);
+        Dances.windTo(x, above[0], above[1]);
         int beats = x.count(1);
         int order = x.place(1, 0);
         due(10, "dance(TWIST) up to 10000", x.dance(TWIST), NO);
@@ -486,37 +413,37 @@ public final class PromiseTests {
         due(10, "dance(REST)", x.dance(REST), 10);
         due(10, "undo()", x.undo(), 7);
         x = plainFour();
-        windTo(x, -just[0], just[1]);
+        Dances.windTo(x, -just[0], just[1]);
         due(10, "dance(BACK) down to -9999", x.dance(BACK), 9);
         x = plainFour();
-        windTo(x, -above[0], above[1]);
+        Dances.windTo(x, -above[0], above[1]);
         due(10, "dance(BACK) down to -10000", x.dance(BACK), NO);
         tightByKind(above);
         tightAhead(above);
     }
 
     private static void tightByKind(int[] above) {
-        int[] justTwice = fractionWith(9999, 2);
-        int[] aboveTwice = fractionWith(10000 + 1, 2);
-        RopeDance x = laid("d0,3;");
-        windTo(x, justTwice[0], justTwice[1]);
-        letLead(x, 0);
+        int[] justTwice = Dances.fractionWith(9999, 2);
+        int[] aboveTwice = Dances.fractionWith(10000 + 1, 2);
+        RopeDance x = Dances.laid("d0,3;");
+        Dances.windTo(x, justTwice[0], justTwice[1]);
+        Dances.letLead(x, 0);
         due(10, "EAGER up to 9999", x.dance(TWIST), 12);
-        x = laid("d0,3;");
-        windTo(x, aboveTwice[0], aboveTwice[1]);
-        letLead(x, 0);
+        x = Dances.laid("d0,3;");
+        Dances.windTo(x, aboveTwice[0], aboveTwice[1]);
+        Dances.letLead(x, 0);
         due(10, "EAGER up to 10001", x.dance(TWIST), NO);
-        x = laid("d0,1;");
-        windTo(x, above[0], above[1]);
-        letLead(x, 0);
+        x = Dances.laid("d0,1;");
+        Dances.windTo(x, above[0], above[1]);
+        Dances.letLead(x, 0);
         due(10, "CROSS told BACK up to 10000", x.dance(BACK), NO);
         due(10, "CROSS told TWIST", x.dance(TWIST), 9);
     }
 
     /** The figures 0, 1, 2 of THE ROW, of which the first can not be danced. */
     private static void tightAhead(int[] above) {
-        RopeDance x = laid("r3;r0;r1;r2;");
-        windTo(x, above[0], above[1]);
+        RopeDance x = Dances.laid("r3;r0;r1;r2;");
+        Dances.windTo(x, above[0], above[1]);
         int corner = x.place(0, 0);
         due(18, "comes(0)", x.comes(0), 1);
         due(18, "comes(1)", x.comes(1), corner);
@@ -536,16 +463,16 @@ public final class PromiseTests {
         lookAtTight(x);
     }
 
-    /** PLAIN, LAZY, EAGER, SHY are TOO TIGHT alike, CROSS and STUBBORN (behind a BACK) go back alike. */
+    /** PLAIN, LAZY, EAGER, SHY and, behind a TWIST, STUBBORN are TOO TIGHT alike; a CROSS one goes back. */
     private static void lookAtTight(RopeDance x) {
         if (x.count(1) % 2 == 0) {
             x.dance(REST);
         }
         due(23, "the ROPES differ, so a SHY one dances", x.place(1, 1) + x.place(2, 1), 1);
-        due(23, "count(2)", x.count(2), 2);
+        due(23, "count(2)", x.count(2), 1);
         int leader = x.place(1, 0);
         due(23, "look(leader, 0)", x.look(leader, 0), 2);
-        due(23, "look(leader, 1)", x.look(leader, 1), 4);
+        due(23, "look(leader, 1)", x.look(leader, 1), 5);
     }
 
     private static void put() {
@@ -646,10 +573,10 @@ public final class PromiseTests {
         x.dance(TWIST);
         due(13, "free(-1) of 8", x.free(-1), NONE);
         due(13, "free(0) of 8", x.free(0), NONE);
-        x = laid("d0,1;d1,1;d2,1;d3,1;");
+        x = Dances.laid("d0,1;d1,1;d2,1;d3,1;");
         x.dance(TWIST);
         isRow(13, x, none, BACK);
-        x = laid("d1,3;");
+        x = Dances.laid("d1,3;");
         x.dance(TWIST);
         isRow(13, x, none, BACK);
     }
@@ -700,13 +627,13 @@ public final class PromiseTests {
         }
         isRow(15, x, new int[] {0, 2}, TWIST);
         isRow(15, x, new int[] {3, 1}, TWIST);
-        x = laid("d1,3;");
+        x = Dances.laid("d1,3;");
         // An EAGER one changes places twice: all must go on first.
         isRow(15, x, new int[] {0, 2}, TURN, TWIST);
-        x = laid("d0,3;d1,3;d2,3;d3,3;");
+        x = Dances.laid("d0,3;d1,3;d2,3;d3,3;");
         due(15, "meet(0, 2, -1)", x.meet(0, 2, -1), NONE);
         due(15, "meet(1, 3, 6)", x.meet(1, 3, 6), NONE);
-        x = laid("d1,2;");
+        x = Dances.laid("d1,2;");
         x.dance(REST);
         // A LAZY one does nothing in BEAT 1; TWIST is first of the figures all the same.
         isRow(15, x, new int[] {0, 2}, TWIST, TWIST);
@@ -734,7 +661,7 @@ public final class PromiseTests {
         due(16, "ways(6) of 7", x.ways(6), 0);
         // BACK seven times; from 7 by a TURN to -1 by 7 nothing else is near enough.
         due(16, "ways(7) of 7", x.ways(7), 1);
-        x = laid("d0,3;d1,3;d2,3;d3,3;");
+        x = Dances.laid("d0,3;d1,3;d2,3;d3,3;");
         x.dance(TWIST);
         due(16, "ways(7) of EAGER ones", x.ways(7) > 0 ? 1 : 0, 1);
         due(16, "ways(1) of EAGER ones", x.ways(1), 1);
@@ -760,16 +687,16 @@ public final class PromiseTests {
         x.dance(BACK);
         due(17, "plain() of -61", x.plain(), NONE);
         isWound(17, x, -61, 1);
-        x = laid("d0,1;d1,1;d2,1;d3,1;");
+        x = Dances.laid("d0,1;d1,1;d2,1;d3,1;");
         x.dance(TWIST);
         due(17, "plain() of CROSS ones", x.plain(), NONE);
-        x = laid("d0,3;d1,3;d2,3;d3,3;");
+        x = Dances.laid("d0,3;d1,3;d2,3;d3,3;");
         danceAll(x, BACK, BACK);
         due(17, "plain() of EAGER ones, -4", x.plain(), 2);
-        int[] above = fractionWith(10000, 1);
-        x = laid("d0,1;");
-        windTo(x, -above[0], above[1]);
-        letLead(x, 0);
+        int[] above = Dances.fractionWith(10000, 1);
+        x = Dances.laid("d0,1;");
+        Dances.windTo(x, -above[0], above[1]);
+        Dances.letLead(x, 0);
         due(17, "plain(), TOO TIGHT", x.plain(), NONE);
     }
 
@@ -849,7 +776,7 @@ public final class PromiseTests {
     }
 
     private static void kinds() {
-        RopeDance x = laid("r0;r3;r0;");
+        RopeDance x = Dances.laid("r0;r3;r0;");
         due(22, "kinds(-1)", x.kinds(-1), BAD);
         due(22, "kinds(4)", x.kinds(4), BAD);
         for (int far : FAR) {
@@ -873,18 +800,18 @@ public final class PromiseTests {
         due(22, "dancer(1, 0) stays", x.dancer(1, 0), 0);
         x.dance(REST);
         due(22, "kinds(1), LAZY not in BEAT 2", x.kinds(1), 0);
-        x = laid("r0;");
+        x = Dances.laid("r0;");
         x.dance(BACK);
         x.dance(REST);
         x.put(1, 2);
         x.see(1, -2, 1);
         due(22, "kinds(1), STUBBORN behind a BACK", x.kinds(1), 2 + 32);
-        x = laid("r0;p0,1;p1,0;p2,3;p3,2;");
+        x = Dances.laid("r0;p0,1;p1,0;p2,3;p3,2;");
         x.put(1, 2);
         x.put(1, 3);
         x.see(1, 0, 1);
         due(22, "kinds(0), SHY only by the same ROPE", x.kinds(0), 0);
-        x = laid("r0;");
+        x = Dances.laid("r0;");
         x.dance(TURN);
         danceAll(x, TURN);
         x.see(1, 0, 1);
@@ -895,7 +822,7 @@ public final class PromiseTests {
     }
 
     private static void look() {
-        RopeDance x = laid("r3;r0;r0;");
+        RopeDance x = Dances.laid("r3;r0;r0;");
         due(23, "look(-1, 0)", x.look(-1, 0), BAD);
         due(23, "look(4, 0)", x.look(4, 0), BAD);
         due(23, "look(0, -1)", x.look(0, -1), BAD);
@@ -920,13 +847,13 @@ public final class PromiseTests {
         due(23, "look(1, 1), EAGER alone", x.look(1, 1), NONE);
         x.see(0, 1, 0);
         due(23, "look(1, 0), none", x.look(1, 0), NONE);
-        x = laid("d0,0;");
+        x = Dances.laid("d0,0;");
         due(23, "look(0, 0) of no ROW", x.look(0, 0), 1);
         due(23, "look(0, 1) of no ROW", x.look(0, 1), 6);
-        x = laid("r3;r3;r3;r3;r3;r3;r3;r3;r3;r3;r3;r0;");
+        x = Dances.laid("r3;r3;r3;r3;r3;r3;r3;r3;r3;r3;r3;r0;");
         due(23, "look(1, 0), the last one tells", x.look(1, 0), 12);
         due(23, "look(1, 1), the last one tells", x.look(1, 1), 3);
-        x = laid("r0;");
+        x = Dances.laid("r0;");
         danceAll(x, BACK, REST);
         x.put(1, 2);
         x.see(1, -2, 1);
@@ -949,7 +876,7 @@ public final class PromiseTests {
         due(24, "danced(0) of -1", x.danced(0), 0);
         due(24, "danced(1) of -1", x.danced(1), 1);
         due(24, "danced(2) of -1: TWIST TURN", x.danced(2), 1);
-        x = laid("d1,3;");
+        x = Dances.laid("d1,3;");
         x.dance(TWIST);
         due(24, "danced(1) of 2", x.danced(1), 0);
         due(24, "danced(2) of 2", x.danced(2), 1);
@@ -961,7 +888,7 @@ public final class PromiseTests {
         danceAll(x, TWIST, TWIST, TWIST, TURN, TWIST);
         due(24, "danced(5) of 2 by 3", x.danced(5), 2);
         due(24, "danced(7) of 2 by 3", x.danced(7), 27);
-        x = laid("d0,1;d1,1;d2,1;d3,1;");
+        x = Dances.laid("d0,1;d1,1;d2,1;d3,1;");
         danceAll(x, BACK, BACK, BACK, TURN, BACK);
         due(24, "danced(7) of 2 by 3, by CROSS ones", x.danced(7), 27);
     }
@@ -989,12 +916,12 @@ public final class PromiseTests {
         x.lay();
         x.dance(TURN);
         due(25, "duel(1) of ENDLESS", x.duel(1), 1);
-        x = laid("d1,1;");
+        x = Dances.laid("d1,1;");
         x.dance(TURN);
         danceAll(x, TURN, TURN, TURN, BACK);
         due(25, "wound(0)", x.wound(0), 1);
         due(25, "duel(1)", x.duel(1), 2);
-        x = laid("d0,1;d1,1;d2,1;d3,1;");
+        x = Dances.laid("d0,1;d1,1;d2,1;d3,1;");
         danceAll(x, TWIST, TWIST);
         // -2: a CROSS one does BACK for TWIST.
         due(25, "duel(1) of CROSS ones at -2", x.duel(1), 3);
@@ -1010,7 +937,7 @@ public final class PromiseTests {
     }
 
     private static void odds() {
-        RopeDance x = laid("r0;r1;r0;");
+        RopeDance x = Dances.laid("r0;r1;r0;");
         due(26, "odds(-1, 0, 0)", x.odds(-1, 0, 0), BAD);
         due(26, "odds(8, 0, 0)", x.odds(8, 0, 0), BAD);
         due(26, "odds(0, -1, 0)", x.odds(0, -1, 0), BAD);
@@ -1032,11 +959,11 @@ public final class PromiseTests {
         // All forgotten (27), or one TWIST and the BACK danced (49 times 3, twice).
         odds(x, 3, 3, 321, 1000);
         odds(x, 7, 3, 321, 1000);
-        x = laid("r0;r0;r0;r0;r0;r0;r0;r0;");
+        x = Dances.laid("r0;r0;r0;r0;r0;r0;r0;r0;");
         odds(x, 7, 1, 1, 10000000);
         odds(x, 7, 10, 1, 1);
         odds(x, 7, 0, 0, 1);
-        x = laid("d1,2;r3;r0;");
+        x = Dances.laid("d1,2;r3;r0;");
         // LAZY in BEAT 1, whether the REST is forgotten or not.
         odds(x, 2, 4, 1, 1);
         x.dance(REST);
@@ -1076,9 +1003,9 @@ public final class PromiseTests {
         counts(27, x, 0, 1, 1, 1, 0, 0, 5);
         isWound(27, x, 1, 1);
         due(27, "evening(9999, 60, 0)", x.evening(9999, 60, 0) >= 0 ? 1 : 0, 1);
-        int[] above = fractionWith(10000, 1);
+        int[] above = Dances.fractionWith(10000, 1);
         x = plainFour();
-        windTo(x, -above[0], above[1]);
+        Dances.windTo(x, -above[0], above[1]);
         due(27, "evening(0, 1, 1), BACK TOO TIGHT", x.evening(0, 1, 1), 1);
         due(27, "evening(0, 1, 2), PUT all the same", x.evening(0, 1, 2), x.place(2, 0));
     }
@@ -1119,7 +1046,7 @@ public final class PromiseTests {
         due(28, "undo()", x.undo(), 0);
         due(28, "count(4) stays", x.count(4), 1);
         due(28, "keep()", x.keep(), 2);
-        tell(x, "r0;");
+        Dances.tell(x, "r0;");
         x.lay();
         due(28, "keep() of what is LAID anew", x.keep(), 1);
     }
@@ -1131,7 +1058,7 @@ public final class PromiseTests {
         for (int far : FAR) {
             due(30, "count(" + far + ")", x.count(far), BAD);
         }
-        tell(x, "r0;r1;");
+        Dances.tell(x, "r0;r1;");
         x.dance(REST);
         x.dance(TURN);
         x.see(0, 0, 1);

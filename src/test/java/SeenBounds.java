@@ -15,15 +15,13 @@ public final class SeenBounds {
         kindsInPlaceOfItsOwn();
         lookNumbers();
         lookForTheLast();
+        lookByBothParts();
         lookFirstOfSeveral();
         lookNone();
         dancedNumbers();
         dancedByPlainOnes();
+        dancedBehindOtherCalls();
         Asked.end();
-    }
-
-    private static boolean isTold(int u, int l) {
-        return u == 1 && l == 0 || u >= -99 && u <= 99 && l >= 1 && l <= 99 && Dances.divisor(u, l) == 1;
     }
 
     private static void seenNumbers() {
@@ -31,8 +29,8 @@ public final class SeenBounds {
         for (int u = -101; u <= 101; u++) {
             RopeDance x = new RopeDance();
             for (int l = -2; l <= 101; l++) {
-                Asked.due("see(0, " + u + ", " + l + ")", x.see(0, u, l), isTold(u, l) ? 1 : BAD);
-                Asked.due("forget()", x.forget(), isTold(u, l) ? 1 : 0);
+                Asked.due("see(0, " + u + ", " + l + ")", x.see(0, u, l), Dances.isTold(u, l) ? 1 : BAD);
+                Asked.due("forget()", x.forget(), Dances.isTold(u, l) ? 1 : 0);
             }
         }
         RopeDance x = new RopeDance();
@@ -211,18 +209,28 @@ public final class SeenBounds {
         }
         // LAZY and EAGER ones lead again behind the first TWIST: 4 by 1 for EAGER, 1 by 1 for LAZY; then the rest part.
         RopeDance x = Dances.laid("r3;r0;r2;r0;r0;");
-        Oracle o = oracle("r3;r0;r2;r0;r0;");
+        Oracle o = Oracle.laid("r3;r0;r2;r0;r0;");
         for (int i = 0; i < 4; i++) {
             Asked.due("look(" + i + ", 0)", x.look(i, 0), o.look(i, 0));
             Asked.due("look(" + i + ", 1)", x.look(i, 1), o.look(i, 1));
         }
     }
 
-    private static Oracle oracle(String text) {
-        Oracle o = new Oracle();
-        o.text = text;
-        o.lay();
-        return o;
+    /** By U and L, not by one of them or by their sum: 1 by 2 and 2 by 1 are told apart. */
+    private static void lookByBothParts() {
+        Asked.under("told apart best by WOUND");
+        RopeDance x = Dances.laid("r0;r0;r2;r1;r2;r2;r0;");
+        Asked.due("look(2, 0): all six are told apart by the last", x.look(2, 0), 7);
+        Asked.due("look(2, 1)", x.look(2, 1), 1);
+        x = Dances.laid("r0;r2;r2;r0;r2;r1;r0;");
+        Asked.due("look(1, 0)", x.look(1, 0), 6);
+        Asked.due("look(1, 1)", x.look(1, 1), 2);
+        x = Dances.laid("r0;r0;r0;r2;r1;r0;");
+        Asked.due("look(2, 0)", x.look(2, 0), 6);
+        Asked.due("look(2, 1)", x.look(2, 1), 2);
+        x = Dances.laid("r1;r2;r0;");
+        Asked.due("look(1, 0)", x.look(1, 0), 1);
+        Asked.due("look(1, 1)", x.look(1, 1), 4);
     }
 
     private static void lookFirstOfSeveral() {
@@ -234,7 +242,7 @@ public final class SeenBounds {
         Asked.due("look(1, 0) of no ROW", x.look(1, 0), 1);
         Asked.due("look(1, 1) of no ROW", x.look(1, 1), 6);
         x = Dances.laid(Dances.TWELVE);
-        Asked.due("look(0, 0)", x.look(0, 0), oracle(Dances.TWELVE).look(0, 0));
+        Asked.due("look(0, 0)", x.look(0, 0), Oracle.laid(Dances.TWELVE).look(0, 0));
         x = Dances.laid("r2;r2;r0;");
         Asked.due("look(1, 1): dancer 1 never leads", x.look(1, 1), 6);
         Asked.due("look(1, 0)", x.look(1, 0), 1);
@@ -306,5 +314,27 @@ public final class SeenBounds {
         Asked.due("danced(2) of -2", x.danced(2), 1);
         Dances.dance(x, BACK, BACK, BACK, TURN, BACK, TURN, BACK, TURN);
         Asked.due("danced(7) of what no 7 can make", x.danced(7), 0);
+    }
+
+    /** From how it was LAID, whatever was danced or tried out since then, and whoever stands where. */
+    private static void dancedBehindOtherCalls() {
+        Asked.under("danced from how it was LAID by PLAIN DANCERS");
+        String text = "d0,1;d1,5;d2,3;d3,2;r0;r2;r1;";
+        RopeDance x = Dances.laid(text);
+        Oracle o = Oracle.laid(text);
+        int[] figures = {BACK, TURN, TWIST, REST, TURN, BACK, TWIST, TURN, TURN, BACK};
+        for (int figure : figures) {
+            x.dance(figure);
+            o.dance(figure);
+            x.put(0, 3);
+            o.put(0, 3);
+            for (int n = 0; n <= 7; n++) {
+                x.ways(3);
+                x.comes(0);
+                Asked.due("danced(" + n + ")", x.danced(n), o.danced(n));
+                x.meet(0, 1, 0);
+                Asked.due("danced(" + n + ") behind meet", x.danced(n), o.danced(n));
+            }
+        }
     }
 }

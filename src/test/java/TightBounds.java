@@ -14,6 +14,7 @@ public final class TightBounds {
         whatStaysWhenItIsNot();
         rowsOfWhichOneIs();
         meet();
+        meetBehindAnother();
         plain();
         theRow();
         behind();
@@ -182,6 +183,29 @@ public final class TightBounds {
         meets(x, TWIST);
         x.dance(TWIST);
         meets(x, BACK);
+    }
+
+    /**
+     * An EAGER one leads in a BEAT of an even number, a LAZY one behind a TURN: there must be a FIGURE ahead of
+     * the TURN, so that the LAZY one leads in a BEAT of an even number. A TWIST that is TOO TIGHT is no such FIGURE.
+     */
+    private static void meetBehindAnother() {
+        Asked.under("a row of FIGURES of which one is TOO TIGHT is none");
+        for (int sum = AT; sum <= BEYOND; sum++) {
+            RopeDance x = woundTo("d0,3;d2,2;", sum, 2, 1);
+            Dances.letLead(x, 0);
+            if (x.place(0, 0) != 2) {
+                x.put(x.place(0, 0), 2);
+            }
+            if (x.count(1) % 2 == 1) {
+                x.dance(REST);
+            }
+            int across = x.place(2, 0);
+            Asked.due("meet, how many", x.meet(2, across, -1), 3);
+            Asked.due("meet, the first", x.meet(2, across, 0), sum == AT ? TWIST : BACK);
+            Asked.due("meet, the second", x.meet(2, across, 1), TURN);
+            Asked.due("meet, the third", x.meet(2, across, 2), TWIST);
+        }
     }
 
     /** An EAGER one leads at first, by whom -U by L becomes 2 L less U: 9999, or 10000. */
@@ -375,9 +399,7 @@ public final class TightBounds {
             int sign = stand % 4 < 2 ? 1 : -1;
             int[] f = Dances.fractionWith(9999 + stand / 48, 1 + stand / 24 % 2);
             RopeDance x = Dances.laid(text);
-            Oracle o = new Oracle();
-            o.text = text;
-            o.lay();
+            Oracle o = Oracle.laid(text);
             for (int figure : Dances.wayTo(sign * f[0], f[1])) {
                 if (figure != TURN) {
                     letLead(x, o, 3);

@@ -22,16 +22,6 @@ public final class TurnsBounds {
         Asked.end();
     }
 
-    private static Oracle oracle(String text, int... figures) {
-        Oracle o = new Oracle();
-        o.text = text;
-        o.lay();
-        for (int figure : figures) {
-            o.dance(figure);
-        }
-        return o;
-    }
-
     private static void turnsNumbers() {
         Asked.under("By turns: how great it is. BAD.");
         RopeDance x = new RopeDance();
@@ -67,7 +57,7 @@ public final class TurnsBounds {
         Asked.due("duel(1) of 1 by 3: 4 by 3", x.duel(1), 4);
         for (int start = 0; start < 27; start++) {
             int[] figures = {start % 3, start / 3 % 3, start / 9, TWIST};
-            Oracle o = oracle("d0,0;", figures);
+            Oracle o = Oracle.laid("d0,0;", figures);
             x.lay();
             Dances.dance(x, figures);
             for (int n = 0; n <= 5; n++) {

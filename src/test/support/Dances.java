@@ -139,6 +139,11 @@ final class Dances {
         return best;
     }
 
+    /** One that reach() and see() take. */
+    static boolean isTold(int u, int l) {
+        return u == 1 && l == 0 || u >= -99 && u <= 99 && l >= 1 && l <= 99 && divisor(u, l) == 1;
+    }
+
     static int divisor(int a, int b) {
         return b == 0 ? Math.abs(a) : divisor(b, a % b);
     }

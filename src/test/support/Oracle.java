@@ -12,6 +12,17 @@ final class Oracle {
     List<Now> kept = new ArrayList<>();
     List<int[]> seen = new ArrayList<>();
 
+    /** Laid from a text, some figures danced. */
+    static Oracle laid(String text, int... figures) {
+        Oracle o = new Oracle();
+        o.text = text;
+        o.lay();
+        for (int figure : figures) {
+            o.dance(figure);
+        }
+        return o;
+    }
+
     static boolean out(int v, int low, int high) {
         return v < low || v > high;
     }
