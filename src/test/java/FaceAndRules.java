@@ -4,9 +4,12 @@ import java.lang.reflect.Method;
 import java.lang.reflect.Modifier;
 import java.nio.file.Files;
 import java.nio.file.Path;
+import java.util.ArrayList;
 import java.util.Arrays;
 import java.util.List;
+import java.util.Map;
 import java.util.Set;
+import java.util.TreeMap;
 import java.util.TreeSet;
 import java.util.regex.Matcher;
 import java.util.regex.Pattern;
@@ -28,6 +31,9 @@ public final class FaceAndRules {
         names();
         words();
         lengths();
+        kindsOfFields();
+        library();
+        depthOfCalls();
         room();
         System.out.println(wrong == 0 ? "face, rules and room are as told" : wrong + " faults");
         if (wrong != 0) {
@@ -58,7 +64,9 @@ public final class FaceAndRules {
         }
         hold(found.equals(FACE), "the public methods are " + FACE + ", not " + found);
         for (Class<?> inside : c.getDeclaredClasses()) {
-            hold(Modifier.isStatic(inside.getModifiers()), inside + " is static");
+            int is = inside.getModifiers();
+            hold(Modifier.isStatic(is), inside + " is static");
+            hold(!Modifier.isPublic(is) && !Modifier.isProtected(is), inside + " is not seen from outside");
         }
         hold(c.getDeclaredClasses().length <= 12, "at most twelve classes");
     }
@@ -131,6 +139,67 @@ public final class FaceAndRules {
             }
             hold(line.length() <= 120, "line " + (i + 1) + " is short");
         }
+    }
+
+    /** Rules 3, 5 and 11: what fields may hold, and how many of them a class may have. */
+    private static void kindsOfFields() {
+        List<Class<?>> classes = new ArrayList<>(List.of(RopeDance.class.getDeclaredClasses()));
+        classes.add(RopeDance.class);
+        for (Class<?> c : classes) {
+            int own = 0;
+            for (Field f : c.getDeclaredFields()) {
+                boolean constant = Modifier.isStatic(f.getModifiers());
+                own += constant ? 0 : 1;
+                Class<?> held = f.getType().isArray() ? f.getType().getComponentType() : f.getType();
+                hold(constant ? f.getType() == int.class || f.getType() == String.class
+                        : held.isPrimitive() || classes.contains(held), f + " is of a type that is told");
+            }
+            hold(own <= 20, c + " has at most twenty fields");
+        }
+    }
+
+    /** Rule 4: nothing of the library but what the program is known to use, all of which is listed there. */
+    private static void library() throws Exception {
+        Set<String> known = Set.of("Math.min", "Math.max", "Math.abs", "Integer.bitCount");
+        Matcher m = Pattern.compile("\\b(Math|Integer|Long|Arrays|String|StringBuilder|List|ArrayList|Character)\\.\\w+")
+                .matcher(bareSource());
+        while (m.find()) {
+            hold(known.contains(m.group()), m.group() + " is listed and known to be used");
+        }
+    }
+
+    /** Rules 8 and 11: but for methods that call themselves no chain of calls is a ring or deeper than eight. */
+    private static void depthOfCalls() throws Exception {
+        Map<String, Set<String>> calls = new TreeMap<>();
+        String current = "";
+        for (String line : bareSource().split("\n")) {
+            Matcher begin = Pattern.compile(" {4,8}(?:[a-z]+ )*(?:\\w+ )?(\\w+)\\([^;]*\\) \\{").matcher(line);
+            if (begin.matches() && !line.matches(" *(if|for|while|switch|else|return)\\b.*")) {
+                current = begin.group(1);
+                calls.computeIfAbsent(current, name -> new TreeSet<>());
+                continue;
+            }
+            Matcher call = Pattern.compile("(?<!new )\\b(\\w+)\\(").matcher(line);
+            while (!current.isEmpty() && call.find()) {
+                calls.get(current).add(call.group(1));
+            }
+        }
+        hold(calls.keySet().containsAll(FACE.stream().map(f -> f.substring(0, f.indexOf(' '))).toList()),
+                "all methods of the face were found in the source");
+        for (String name : calls.keySet()) {
+            int depth = depthFrom(name, calls, 1);
+            hold(depth <= 8, name + " goes " + depth + " deep");
+        }
+    }
+
+    private static int depthFrom(String name, Map<String, Set<String>> calls, int depth) {
+        int deepest = depth;
+        for (String next : calls.get(name)) {
+            if (calls.containsKey(next) && !next.equals(name) && depth < 20) {
+                deepest = Math.max(deepest, depthFrom(next, calls, depth + 1));
+            }
+        }
+        return deepest;
     }
 
     /** The calls themselves are to make nothing: all rows are made with the object. */

@@ -3,11 +3,14 @@ public final class PromiseTests {
     private static final int BAD = -1, NO = -2, FULL = -3, NONE = -4, WRONG = -100000, NOTHING = -100001;
     private static final int TWIST = 0, BACK = 1, TURN = 2, REST = 3;
     private static final int[] FAR = {Integer.MIN_VALUE, -100000, 100000, Integer.MAX_VALUE};
+    private static final int PROMISES = 30;
+    private static final int[] askedOf = new int[PROMISES + 1];
     private static int wrong = 0;
     private static int asked = 0;
 
     private static void due(int promise, String call, int got, int want) {
         asked++;
+        askedOf[promise]++;
         if (got != want) {
             wrong++;
             System.out.println("promise " + promise + ": " + call + " answered " + got + ", due is " + want);
@@ -46,9 +49,19 @@ public final class PromiseTests {
         evening();
         keepAndBack();
         count();
+        everyPromiseAsked();
         System.out.println(asked + " answers asked for, " + wrong + " not as due");
         if (wrong != 0) {
             System.exit(1);
+        }
+    }
+
+    private static void everyPromiseAsked() {
+        for (int promise = 1; promise <= PROMISES; promise++) {
+            if (askedOf[promise] == 0) {
+                wrong++;
+                System.out.println("promise " + promise + ": nothing was asked");
+            }
         }
     }
 
